@@ -83,11 +83,13 @@ public final class BookingsTest {
         yard.check(0, 1, 0);
         Due.is("an ended one takes none", 8, () -> yard.book(1, 0, 7));
         Due.is("full again", 2, () -> yard.count(101));
+        GateSteps wide = Due.yard(24, 1, 2);
+        wide.book(23, 0, 0);
+        Due.is("none behind the last of 24", -25, () -> wide.book(23, 0, 1));
     }
 
     private static void sixtyBookings() {
-        GateSteps yard = Due.yard(24, 8, 20);
-        yard.check(0, 1, 1);
+        GateSteps yard = Due.yard(24, 8, 2);
         for (int i = 1; i <= 59; i++) {
             int number = i;
             Due.is("booking " + i, number, () -> yard.book(0, 0, 0));
@@ -100,11 +102,13 @@ public final class BookingsTest {
         Due.state("a held box with 60", () -> yard.book(0, 0, 1));
         Due.index("a wrong slot ahead of 60", () -> yard.book(24, 0, 0));
         Due.index("a wrong truck ahead of 60", () -> yard.book(0, 16, 0));
-        Due.index("a wrong box ahead of 60", () -> yard.book(0, 0, 20));
+        Due.index("a wrong box ahead of 60", () -> yard.book(0, 0, 2));
         Due.is("bookings", 60, () -> yard.count(1));
         Due.is("through with 60", 1, () -> yard.through(60, 0));
         Due.is("in its lane", 60, () -> yard.queue(0, 0));
         Due.index("look at 61", () -> yard.look(61, 0));
+        Due.is("done with 60", 60, () -> yard.weigh(0, 1000, 8));
+        Due.is("turn of 60", 8, () -> yard.look(60, 5));
     }
 
     private static void changes() {

@@ -110,9 +110,10 @@ public final class BoxesTest {
                 int place = j;
                 Due.is("at " + box + ", " + place, (int) number.charAt(place), () -> yard.at(box, place));
             }
-            for (int place : new int[] {Integer.MIN_VALUE, -1, 10, 11, Integer.MAX_VALUE}) {
-                Due.index("at " + box + ", " + place, () -> yard.at(box, place));
-            }
+        }
+        for (int place : new int[] {Integer.MIN_VALUE, -1, 10, 11, Integer.MAX_VALUE}) {
+            Due.index("place " + place + " of the first box", () -> yard.at(0, place));
+            Due.index("place " + place + " of the last box", () -> yard.at(19, place));
         }
         for (int box : new int[] {Integer.MIN_VALUE, -1, 20, 21, Integer.MAX_VALUE}) {
             Due.index("at box " + box, () -> yard.at(box, 0));

@@ -95,6 +95,11 @@ public final class ThroughTest {
         Due.is("not dangerous", 1, () -> yard.through(2, 0));
         yard.check(3, 0, 1);
         Due.is("dangerous with papers", 1, () -> yard.through(1, 0));
+        GateSteps fresh = new GateSteps(1, 1);
+        Due.addBox(fresh, 0, 5, true);
+        fresh.check(0, 0, 1);
+        fresh.book(0, 0, 0);
+        Due.is("all but the release is good at first", 1, () -> fresh.through(1, 0));
     }
 
     private static void doubtfulIsNoBar() {
