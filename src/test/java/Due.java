@@ -4,6 +4,14 @@ final class Due {
         Object run();
     }
 
+    interface Setup {
+        GateSteps make();
+    }
+
+    interface Use {
+        Object on(GateSteps yard);
+    }
+
     /** A broken promise can make millions of drawn answers wrong: the first ones tell enough. */
     private static final int MOST_PRINTED = 50;
 
@@ -46,6 +54,32 @@ final class Due {
 
     static void index(String what, Call call) {
         same(what, answer(call), "throws.IndexOutOfBoundsException");
+    }
+
+    /** The call throws that exception, and its yard goes on like one that was never asked. */
+    static void refused(String what, String exception, Setup setup, Use call) {
+        GateSteps asked = setup.make();
+        same(what, answer(() -> call.on(asked)), "throws." + exception);
+        same(what + ": the yard behind it", Picture.of(asked), Picture.of(setup.make()));
+    }
+
+    /** The test of one sentence of the document: what is wrong in it is printed with the sentence's words. */
+    static void sentence(String words, Runnable test) {
+        int callsBefore = calls;
+        int wrongBefore = wrong;
+        try {
+            test.run();
+        } catch (RuntimeException e) {
+            wrong++;
+            System.out.println("a call that only prepares the test threw " + e);
+        }
+        if (calls == callsBefore) {
+            wrong++;
+            System.out.println("no answer was looked at");
+        }
+        if (wrong != wrongBefore) {
+            System.out.println("BROKEN: " + words);
+        }
     }
 
     static void end() {
